@@ -1,0 +1,15 @@
+/** Runs every test of the project. */
+public final class AllTests {
+    private AllTests() {
+    }
+
+    public static void main(String[] args) {
+        AgentTests.run();
+        HandTests.run();
+        ViewTests.run();
+        System.out.println("checks: " + Check.passed + " passed, " + Check.failed + " failed");
+        if (Check.failed > 0 || Check.passed == 0) {
+            System.exit(1);
+        }
+    }
+}
