@@ -7,6 +7,7 @@ public final class AllTests {
         AgentTests.run();
         HandTests.run();
         ViewTests.run();
+        ReadingTests.run();
         System.out.println("checks: " + Check.passed + " passed, " + Check.failed + " failed");
         if (Check.failed > 0 || Check.passed == 0) {
             System.exit(1);
