@@ -8,6 +8,12 @@ public final class AllTests {
         HandTests.run();
         ViewTests.run();
         ReadingTests.run();
+        RequestTests.run();
+        GuardTests.run();
+        NoticeTests.run();
+        ManagerTests.run();
+        LineTests.run();
+        WholeTests.run();
         System.out.println("checks: " + Check.passed + " passed, " + Check.failed + " failed");
         if (Check.failed > 0 || Check.passed == 0) {
             System.exit(1);

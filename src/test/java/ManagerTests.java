@@ -1,0 +1,428 @@
+/** Promises 28 to 36, and what section 7 of the document tells of MANAGERS. */
+final class ManagerTests {
+    private ManagerTests() {
+    }
+
+    static void run() {
+        promise28();
+        promises29And35();
+        promises30And32();
+        promise31();
+        promise33();
+        refusedSends();
+        learning();
+        answers();
+        dropped();
+        promise36();
+        informsAreAnswered();
+        wrongInputs();
+    }
+
+    private static void promise28() {
+        Agenttree x = new Agenttree();
+        Check.same("speak(1, ..)", 1, x.speak(1, 4, 9999));
+        Check.same("speak(1, ..) again", 4, x.speak(1, 0, 0));
+        Check.same("its USER", 0, x.ofManager(1, 0));
+        Check.same("its KEY", 0, x.ofManager(1, 1));
+        Check.badPlace(x, "speak(-1, ..)", () -> x.speak(-1, 0, 0));
+        Check.badPlace(x, "speak(2, ..)", () -> x.speak(2, 0, 0));
+        Check.badPlace(x, "USER -1", () -> x.speak(0, -1, 0));
+        Check.badPlace(x, "USER 5 ahead of the KEY", () -> x.speak(0, 5, -1));
+        Check.badArgument(x, "KEY -1", () -> x.speak(0, 0, -1));
+        Check.badArgument(x, "KEY 10000", () -> x.speak(0, 0, 10000));
+        x.send(1);
+        Check.same("a row as that USER", "1 0 0 0 0 0 -1 0: 0 get 1 0 0", x.rowText(0));
+    }
+
+    private static void promises29And35() {
+        Agenttree x = new Agenttree();
+        x.restart();
+        x.tick(4);
+        Talk.learn(x, 1);
+        x.tick(3);
+        int[] due = {1, 1001, 7, 2, 7, 1, 0, 1, 0, 0, 0, 1};
+        for (int what = 0; what < 12; what++) {
+            Check.same("ofManager(1, " + what + ")", due[what], x.ofManager(1, what));
+        }
+        Check.same("forget(1)", 2, x.forget(1));
+        for (int what = 2; what <= 4; what++) {
+            Check.same("ofManager(1, " + what + ") then", 0, x.ofManager(1, what));
+        }
+        x.tick(5);
+        Check.same("TIME from then on", 5, x.ofManager(1, 4));
+        Check.same("forget(1) again", 0, x.forget(1));
+        Check.same("TIME of the other one", 12, x.ofManager(0, 4));
+        Check.badPlace(x, "forget(-1)", () -> x.forget(-1));
+        Check.badPlace(x, "forget(2)", () -> x.forget(2));
+        Check.badPlace(x, "ofManager(-1, 0)", () -> x.ofManager(-1, 0));
+        Check.badPlace(x, "ofManager(2, 12)", () -> x.ofManager(2, 12));
+        Check.badArgument(x, "ofManager(0, -1)", () -> x.ofManager(0, -1));
+        Check.badArgument(x, "ofManager(0, 12)", () -> x.ofManager(0, 12));
+        x.draft(0, 2, 0, 0, 0);
+        x.send(1);
+        Check.same("rows of the LEVEL 2", 1, x.ofManager(1, 10));
+        Check.same("OPEN", 1, x.ofManager(1, 6));
+        Check.same("SENT", 2, x.ofManager(1, 5));
+    }
+
+    private static void promises30And32() {
+        Agenttree x = new Agenttree();
+        Check.same("draft(4, ..)", 0, x.draft(4, 2, 9, -9, 99));
+        Check.same("its text", "9 bulk 0 -9 99", x.draftText());
+        Check.same("few and many of a GET", 0, x.draft(0, 0, 0, 1000, -1000));
+        Check.same("its text", "0 get 0 0 0", x.draftText());
+        Talk.bind(x, "1", "2=-3", "3.500='a'");
+        Check.same("its text", "0 get 0 0 0, 1=null, 2=-3, 3.500='a'", x.draftText());
+        Check.same("draft(1, ..)", 3, x.draft(1, 1, 3, 7, 8));
+        Check.same("its text", "3 next 0 0 0", x.draftText());
+        Check.same("draft(3, ..)", 0, x.draft(3, 1, 1, 7, 8));
+        Check.same("its text", "1 set 0 0 0", x.draftText());
+        x.draft(4, 0, 0, 99, -9);
+        Check.same("its text", "0 bulk 0 99 -9", x.draftText());
+        for (int kind : new int[] {-1, 2, 5, 6, 7, 8}) {
+            Check.badArgument(x, "KIND " + kind, () -> x.draft(kind, 0, 0, 0, 0));
+        }
+        Check.badArgument(x, "LEVEL -1", () -> x.draft(0, -1, 0, 0, 0));
+        Check.badArgument(x, "LEVEL 3", () -> x.draft(0, 3, 0, 0, 0));
+        Check.badArgument(x, "CONTEXT -1", () -> x.draft(0, 0, -1, 0, 0));
+        Check.badArgument(x, "CONTEXT 10", () -> x.draft(0, 0, 10, 0, 0));
+        Check.badArgument(x, "FEW -10", () -> x.draft(4, 0, 0, -10, 0));
+        Check.badArgument(x, "FEW 100", () -> x.draft(4, 0, 0, 100, 0));
+        Check.badArgument(x, "MANY -10", () -> x.draft(4, 0, 0, 0, -10));
+        Check.badArgument(x, "MANY 100", () -> x.draft(4, 0, 0, 0, 100));
+        x.send(0);
+        x.send(0);
+        Check.same("the text of one that was SENT", "0 bulk 0 99 -9", x.draftText());
+        Check.same("what was SENT of it", "2 0 0 0 0 0 -1 0: 0 bulk 2 99 -9", x.rowText(1));
+    }
+
+    private static void promise31() {
+        Agenttree x = new Agenttree();
+        Check.badState(x, "bind without a NAME", () -> x.bind(0, 0));
+        Check.badArgument(x, "bind(-1, 0) without a NAME", () -> x.bind(-1, 0));
+        Check.badArgument(x, "bind(6, 0)", () -> x.bind(6, 0));
+        x.name(1, 2, -1, -1);
+        Check.badState(x, "bind(5, 0) without a SHELF", () -> x.bind(5, 0));
+        Check.badArgument(x, "COUNTER -1", () -> x.bind(3, -1));
+        Check.badArgument(x, "COUNTER 65536", () -> x.bind(3, 65536));
+        Check.badArgument(x, "TICKS -1", () -> x.bind(4, -1));
+        Check.same("bind(0, ..)", 1, x.bind(0, -1));
+        Check.same("bind(1, least)", 2, x.bind(1, -2147483648));
+        Check.same("bind(2, ..)", 3, x.bind(2, -1));
+        Check.same("bind(3, 0)", 4, x.bind(3, 0));
+        Check.same("bind(3, 65535)", 5, x.bind(3, 65535));
+        Check.same("bind(4, 0)", 6, x.bind(4, 0));
+        Check.same("bind(4, greatest)", 7, x.bind(4, 2147483647));
+        x.name(7, 128, -1, -1);
+        x.shelve();
+        x.name(3, -1, -1, -1);
+        Check.same("bind(5, ..)", 8, x.bind(5, -1));
+        Check.same("all of it", "0 get 0 0 0, 1.2=null, 1.2=-2147483648, 1.2='', 1.2=c0, 1.2=c65535, 1.2=t0, 1.2=t2147483647, "
+                + "3=7.128", x.draftText());
+        Check.badState(x, "a ninth", () -> x.bind(0, 0));
+        Check.badArgument(x, "a ninth that is not let", () -> x.bind(3, -1));
+        x.shelve();
+        Check.is("what was bound stays", x.draftText().endsWith("3=7.128"));
+        Check.same("it can be SENT", 0, x.send(0));
+        int[] row = Rows.list(Rows.integer(3), Rows.integer(0), Rows.integer(0), Rows.integer(0), Rows.integer(0),
+                Rows.integer(0), Rows.integer(0), Rows.octets(""), Rows.integer(0), Rows.scope(0, Rows.pdu(0, 0, 0, 0,
+                Rows.binding("1.2", Rows.empty(5)), Rows.binding("1.2", Rows.integer(-2147483648)),
+                Rows.binding("1.2", Rows.octets("")), Rows.binding("1.2", Rows.number(65, 0)),
+                Rows.binding("1.2", Rows.number(65, 65535)), Rows.binding("1.2", Rows.number(67, 0)),
+                Rows.binding("1.2", Rows.number(67, 2147483647)), Rows.binding("3", Rows.name("7.128")))));
+        Check.same("its bytes", java.util.Arrays.toString(row), GuardTests.bytes(x));
+    }
+
+    private static void promise33() {
+        Agenttree x = new Agenttree();
+        Check.same("the first ID of the MANAGER 1", 1, x.send(1));
+        Check.same("the next one", 3, x.send(1));
+        Check.same("the first ID of the MANAGER 0", 0, x.send(0));
+        x.passAll(40);
+        x.tick(2);
+        for (int level = 1; level <= 2; level++) {
+            x.draft(1, level, 3, 0, 0);
+            Talk.bind(x, "1.128=500");
+            int before = x.ofManager(1, 5);
+            int id = x.send(1);
+            Check.same("its ID", 2 * before + 1, id);
+            int[] scope = Rows.scope(3, Rows.pdu(1, id, 0, 0, Rows.binding("1.128", Rows.integer(500))));
+            Check.same("its bytes", java.util.Arrays.toString(Rows.sealed(id, level, 7, 1, 2, 1, 1001, 0, scope)),
+                    GuardTests.bytes(x));
+            x.lose(0);
+        }
+        int id = x.send(1);
+        int[] scope = Rows.scope(3, Rows.pdu(1, id, 0, 0, Rows.binding("1.128", Rows.integer(500))));
+        Check.same("with the next SALT", java.util.Arrays.toString(Rows.sealed(id, 2, 7, 1, 2, 1, 1001, 1, scope)),
+                GuardTests.bytes(x));
+        Check.same("from whom", 1, x.ofRow(0, 0));
+        Check.same("to whom", 2, x.ofRow(0, 1));
+        Check.same("at which NOW", 2, x.ofRow(0, 4));
+    }
+
+    private static void refusedSends() {
+        Agenttree x = new Agenttree();
+        Check.badPlace(x, "send(-1)", () -> x.send(-1));
+        Check.badPlace(x, "send(2)", () -> x.send(2));
+        Talk.hold(x, "999.998.997.996.995.994.993.992");
+        x.shelve();
+        for (int i = 0; i < 5; i++) {
+            x.bind(5, 0);
+        }
+        Talk.spell(x, "123456789");
+        x.bind(2, 0);
+        // 2 + 18 + 18 for each of five, 2 + 18 + 11: with all the heads 256.
+        Check.refused(x, "a row of more than 255 bytes", () -> x.send(0));
+        for (int n = 0; n <= 12; n++) {
+            x.draft(0, 0, 0, 0, 0);
+            for (int i = 0; i < 4; i++) {
+                x.bind(5, 0);
+            }
+            x.bind(0, 0);
+            x.noLetters();
+            for (int i = 0; i < n; i++) {
+                x.letters(i, -1, -1, -1, -1);
+            }
+            x.bind(2, 0);
+            int due = length(n);
+            int sent = x.house(0);
+            int answer = x.send(0);
+            Check.same("a row of " + due, due > 255 ? -9 : 2 * sent, answer);
+            if (answer >= 0) {
+                Check.same("its bytes", due, x.ofRow(0, 2));
+                x.lose(0);
+            }
+        }
+        x.draft(0, 0, 0, 0, 0);
+        for (int i = 0; i < 16; i++) {
+            x.send(i % 2);
+        }
+        Check.refused(x, "a row with 16 under way", () -> x.send(1));
+        Check.badPlace(x, "send(2) with 16 under way", () -> x.send(2));
+        x.lose(3);
+        Check.is("with 15 under way", x.send(1) >= 0);
+    }
+
+    private static int length(int octets) {
+        int[] name = Rows.name("999.998.997.996.995.994.993.992");
+        int[] two = Rows.list(name, name);
+        int[] last = Rows.list(name, Rows.part(4, new int[octets]));
+        return Rows.plain(0, 0, Rows.scope(0, Rows.pdu(0, 0, 0, 0, two, two, two, two, Rows.list(name, Rows.empty(5)), last))).length;
+    }
+
+    /** A row of this side's making comes to a MANAGER: the bytes of one of the agent, of the same length, are spoiled. */
+    private static void toManager(Agenttree x, int manager, int[] row) {
+        Talk.lay(x, asking(row.length));
+        x.inject(manager);
+        x.pass(x.rows() - 1);
+        int k = x.rows() - 1;
+        Check.same("bytes of a row to be spoiled", row.length, x.ofRow(k, 2));
+        for (int i = 0; i < row.length; i++) {
+            x.spoil(k, i, row[i]);
+        }
+        x.pass(k);
+    }
+
+    /** A GET that is answered by a row of so many bytes (46, or 53 and more). */
+    private static int[] asking(int length) {
+        int[] bindings = {};
+        int rest = length - 46;
+        while (rest > 0) {
+            int name = rest <= 22 ? rest - 6 : rest >= 29 ? 16 : 7;
+            int[] numbers = new int[(name + 1) / 2];
+            for (int i = 0; i < numbers.length; i++) {
+                numbers[i] = i == 0 && name % 2 == 1 ? 9 : 900;
+            }
+            bindings = Rows.join(bindings, Rows.list(Rows.name(numbers), Rows.empty(5)));
+            rest -= 6 + name;
+        }
+        return Rows.plain(0, 0, Rows.scope(0, Rows.pdu(0, 0, 0, 0, bindings)));
+    }
+
+    private static int[] head(int id, int engine, int boots, int time, int user, int[] scope) {
+        return Rows.list(Rows.integer(3), Rows.integer(id), Rows.integer(0), Rows.integer(engine), Rows.integer(boots),
+                Rows.integer(time), Rows.integer(user), Rows.octets(""), Rows.integer(0), scope);
+    }
+
+    private static final int[] NULL = Rows.binding("1.2", Rows.empty(5));
+
+    private static int[] scope(int kind, int request) {
+        return Rows.scope(0, Rows.pdu(kind, request, 0, 0, NULL));
+    }
+
+    private static String knows(Agenttree x, int manager) {
+        return x.ofManager(manager, 2) + " " + x.ofManager(manager, 3) + " " + x.ofManager(manager, 4);
+    }
+
+    private static void learning() {
+        Agenttree x = new Agenttree();
+        toManager(x, 0, head(5, 8, 3, 20, 0, scope(0, 0)));
+        Check.same("nothing of another ENGINE", "0 0 0", knows(x, 0));
+        toManager(x, 0, head(5, 7, 3, 20, 1, scope(0, 0)));
+        Check.same("nothing for another USER", "0 0 0", knows(x, 0));
+        toManager(x, 0, head(5, 7, 3, 20, 0, scope(0, 0)));
+        Check.same("of the LEVEL 0 without an ENGINE", "7 3 20", knows(x, 0));
+        toManager(x, 0, head(5, 7, 4, 99, 0, scope(0, 0)));
+        Check.same("not of the LEVEL 0 with one", "7 3 20", knows(x, 0));
+        x.tick(5);
+        toManager(x, 0, Rows.sealed(5, 1, 7, 3, 25, 0, 1000, 0, scope(0, 0)));
+        Check.same("the same TIME", "7 3 25", knows(x, 0));
+        toManager(x, 0, Rows.sealed(5, 1, 7, 3, 26, 0, 1000, 0, scope(0, 0)));
+        Check.same("a TIME above", "7 3 26", knows(x, 0));
+        toManager(x, 0, Rows.sealed(5, 1, 7, 3, 25, 0, 1000, 0, scope(0, 0)));
+        Check.same("a TIME below", "7 3 26", knows(x, 0));
+        toManager(x, 0, Rows.sealed(5, 1, 7, 2, 99, 0, 1000, 0, scope(0, 0)));
+        Check.same("BOOTS below", "7 3 26", knows(x, 0));
+        toManager(x, 0, Rows.sealed(5, 1, 8, 9, 99, 0, 1000, 0, scope(0, 0)));
+        Check.same("another ENGINE", "7 3 26", knows(x, 0));
+        toManager(x, 0, Rows.sealed(5, 1, 7, 9, 99, 0, 1001, 0, scope(0, 0)));
+        Check.same("a wrong SUM", "7 3 26", knows(x, 0));
+        toManager(x, 0, Rows.sealed(5, 2, 7, 4, 1, 0, 1000, 0, scope(0, 0)));
+        Check.same("BOOTS above", "7 4 1", knows(x, 0));
+        toManager(x, 0, Rows.sealed(5, 2, 7, 4, 8, 0, 1000, 0, Rows.join(scope(0, 0), Rows.of(0))));
+        Check.same("though it is not deciphered", "7 4 8", knows(x, 0));
+        Check.same("all of these were dropped", 12, x.ofManager(0, 9));
+        Check.same("the other MANAGER", "0 0 5", knows(x, 1));
+        x.forget(0);
+        toManager(x, 0, Rows.sealed(5, 1, 7, 0, 0, 0, 1000, 0, scope(0, 0)));
+        Check.same("nothing above what it KNOWS", "0 0 0", knows(x, 0));
+        toManager(x, 0, Rows.sealed(5, 1, 7, 0, 1, 0, 1000, 0, scope(0, 0)));
+        Check.same("a TIME above, without an ENGINE", "7 0 1", knows(x, 0));
+        toManager(x, 0, Rows.sealed(5, 1, 7, 9, 2147483647, 0, 1000, 0, scope(0, 0)));
+        x.tick(1);
+        Check.same("TIME wraps around", "7 9 -2147483648", knows(x, 0));
+    }
+
+    private static void answers() {
+        Agenttree x = new Agenttree();
+        x.draft(0, 1, 0, 0, 0);
+        for (int i = 0; i < 7; i++) {
+            x.send(0);
+            x.send(1);
+            x.lose(0);
+            x.lose(0);
+        }
+        Check.same("OPEN", 7, x.ofManager(0, 6));
+        toManager(x, 0, head(2, 7, 1, 0, 0, scope(2, 2)));
+        Check.same("a RESPONSE of a lower LEVEL", "7 0 ", state(x));
+        toManager(x, 0, Rows.sealed(2, 1, 7, 1, 0, 0, 1000, 0, scope(2, 4)));
+        Check.same("REQUEST and ID of two", "7 0 ", state(x));
+        toManager(x, 0, Rows.sealed(3, 1, 7, 1, 0, 0, 1000, 0, scope(2, 3)));
+        Check.same("an ID of the other MANAGER", "7 0 ", state(x));
+        toManager(x, 0, Rows.sealed(14, 1, 7, 1, 0, 0, 1000, 0, scope(2, 14)));
+        Check.same("an ID that was not SENT", "7 0 ", state(x));
+        toManager(x, 0, Rows.sealed(-2, 1, 7, 1, 0, 0, 1000, 0, scope(2, -2)));
+        Check.same("an ID below 0", "7 0 ", state(x));
+        Check.same("all dropped", 5, x.ofManager(0, 9));
+        toManager(x, 0, Rows.sealed(2, 1, 7, 1, 0, 0, 1000, 0, scope(2, 2)));
+        Check.same("of its LEVEL", "6 1 0 response 2 0 0, 1.2=null", state(x));
+        Check.same("the ID", 2, x.ofManager(0, 11));
+        toManager(x, 0, Rows.sealed(2, 1, 7, 1, 0, 0, 1000, 0, scope(2, 2)));
+        Check.same("OPEN no more", 6, x.ofManager(0, 9));
+        toManager(x, 0, Rows.sealed(12, 2, 7, 1, 0, 0, 1000, 0, scope(2, 12)));
+        Check.same("of a higher LEVEL", "5 2 0 response 12 0 0, 1.2=null", state(x));
+        toManager(x, 0, head(4, 9, 1, 0, 0, scope(7, 99)));
+        Check.same("a REPORT of a lower LEVEL and another ENGINE", "4 3 0 report 99 0 0, 1.2=null", state(x));
+        toManager(x, 0, Rows.sealed(6, 2, 7, 1, 0, 0, 1000, 0, scope(7, 0)));
+        Check.same("a REPORT of a higher LEVEL", "3 4 0 report 0 0 0, 1.2=null", state(x));
+        Check.same("the ID", 6, x.ofManager(0, 11));
+        toManager(x, 0, Rows.sealed(5, 2, 7, 1, 0, 0, 1000, 0, scope(7, 0)));
+        Check.same("a REPORT with an ID of the other MANAGER", "3 4 0 report 0 0 0, 1.2=null", state(x));
+        Check.same("the other MANAGER", 7, x.ofManager(1, 6));
+        Check.badPlace(x, "answer(-1)", () -> x.answer(-1));
+        Check.badPlace(x, "answer(2)", () -> x.answer(2));
+    }
+
+    private static String state(Agenttree x) {
+        return x.ofManager(0, 6) + " " + x.ofManager(0, 7) + " " + x.answer(0);
+    }
+
+    private static void dropped() {
+        Agenttree x = new Agenttree();
+        x.send(0);
+        x.lose(0);
+        int due = 0;
+        for (int kind : new int[] {0, 1, 3, 4}) {
+            toManager(x, 0, head(0, 7, 1, 0, 0, scope(kind, 0)));
+            due++;
+            Check.same("the KIND " + kind + " is dropped", due, x.ofManager(0, 9));
+        }
+        toManager(x, 0, Rows.join(head(0, 7, 1, 0, 0, scope(5, 0)), Rows.of(0)));
+        Check.same("a FAULT", due + 1, x.ofManager(0, 9));
+        toManager(x, 0, head(0, 7, 1, 0, 1, scope(5, 0)));
+        Check.same("another USER", due + 2, x.ofManager(0, 9));
+        toManager(x, 0, Rows.sealed(0, 1, 7, 1, 0, 0, 1001, 0, scope(5, 0)));
+        Check.same("another SUM", due + 3, x.ofManager(0, 9));
+        toManager(x, 0, Rows.sealed(0, 2, 7, 1, 0, 0, 1000, 0, Rows.join(scope(5, 0), Rows.of(0))));
+        Check.same("not deciphered", due + 4, x.ofManager(0, 9));
+        Check.same("nothing was told", 0, x.ofManager(0, 8));
+        Check.same("still OPEN", 1, x.ofManager(0, 6));
+        x.speak(0, 1, 77);
+        toManager(x, 0, Rows.sealed(0, 1, 7, 1, 0, 1, 77, 0, scope(2, 0)));
+        Check.same("by its USER and KEY of now", 1, x.ofManager(0, 7));
+    }
+
+    private static void promise36() {
+        Agenttree x = new Agenttree();
+        toManager(x, 0, head(9, 7, 3, 0, 0, scope(5, 40)));
+        toManager(x, 0, head(9, 9, 4, 0, 0, scope(5, 40)));
+        toManager(x, 0, Rows.sealed(8, 2, 7, 3, 0, 0, 1000, 0, scope(6, -40)));
+        Check.same("three told", 3, x.ofManager(0, 8));
+        Check.same("told(0, 0)", "3 0 trap 40 0 0, 1.2=null", x.told(0, 0));
+        Check.same("told(0, 1)", "4 0 trap 40 0 0, 1.2=null", x.told(0, 1));
+        Check.same("told(0, 2)", "3 0 inform -40 0 0, 1.2=null", x.told(0, 2));
+        x.lose(0);
+        toManager(x, 0, Rows.sealed(8, 1, 7, 4, 0, 0, 1000, 0, scope(5, 40)));
+        Check.same("a TRAP that was told is dropped", 1, x.ofManager(0, 9));
+        Check.same("nothing is SENT", 0, x.rows());
+        toManager(x, 0, head(8, 7, 4, 0, 0, scope(6, 40)));
+        Check.same("an INFORM with the REQUEST of a TRAP is not told", 3, x.ofManager(0, 8));
+        Check.same("it is not dropped", 1, x.ofManager(0, 9));
+        Check.same("it gets a RESPONSE", "8 0 7 4 0 0 -1 0: 0 response 40 0 0, 1.2=null", x.rowText(0));
+        Check.same("the other MANAGER", 0, x.ofManager(1, 8));
+        Check.badPlace(x, "told(-1, 0)", () -> x.told(-1, 0));
+        Check.badPlace(x, "told(2, 0)", () -> x.told(2, 0));
+        Check.badPlace(x, "told(0, -1)", () -> x.told(0, -1));
+        Check.badPlace(x, "told(0, 3)", () -> x.told(0, 3));
+        Check.badPlace(x, "told(1, 0)", () -> x.told(1, 0));
+    }
+
+    private static void informsAreAnswered() {
+        Agenttree x = new Agenttree();
+        int[] inform = Rows.scope(4, Rows.pdu(6, 50, 7, 300, NULL));
+        int[] response = Rows.scope(4, Rows.pdu(2, 50, 0, 0, NULL));
+        int[] one = Rows.sealed(9, 1, 7, 3, 5, 0, 1000, 0, inform);
+        int[] two = Rows.sealed(10, 2, 8, 3, 5, 0, 1000, 77, inform);
+        toManager(x, 0, head(-8, 6, 3, 5, 0, inform));
+        Check.same("of the LEVEL 0", java.util.Arrays.toString(head(-8, 6, 3, 5, 0, response)), GuardTests.bytes(x));
+        Check.same("to the agent", "0 2", x.ofRow(0, 0) + " " + x.ofRow(0, 1));
+        x.lose(0);
+        toManager(x, 0, one);
+        Check.same("of the LEVEL 1", java.util.Arrays.toString(Rows.sealed(9, 1, 7, 3, 5, 0, 1000, 0, response)),
+                GuardTests.bytes(x));
+        x.lose(0);
+        for (int salt = 0; salt < 3; salt++) {
+            toManager(x, 0, two);
+            Check.same("of the LEVEL 2", java.util.Arrays.toString(Rows.sealed(10, 2, 8, 3, 5, 0, 1000, salt, response)),
+                    GuardTests.bytes(x));
+            x.lose(0);
+        }
+        Check.same("told once", 1, x.ofManager(0, 8));
+        Check.same("rows of the LEVEL 2", 3, x.ofManager(0, 10));
+        Check.same("no DRAFT", 0, x.ofManager(0, 5));
+        Check.same("they were SENT", 5 + 5, x.house(0));
+    }
+
+    private static void wrongInputs() {
+        Agenttree x = new Agenttree();
+        x.send(0);
+        x.pass(0);
+        Check.same("the first ANSWER", "0 report 0 0 0, 4.3.0=c1", pass(x));
+        Check.same("none of the other MANAGER", "", x.answer(1));
+    }
+
+    private static String pass(Agenttree x) {
+        x.pass(0);
+        return x.answer(0);
+    }
+}
