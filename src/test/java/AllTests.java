@@ -14,6 +14,7 @@ public final class AllTests {
         ManagerTests.run();
         LineTests.run();
         WholeTests.run();
+        ModelTests.run();
         System.out.println("checks: " + Check.passed + " passed, " + Check.failed + " failed");
         if (Check.failed > 0 || Check.passed == 0) {
             System.exit(1);
