@@ -702,7 +702,7 @@ public final class Agenttree {
     }
 
     public int ofRow(int k, int what) throws IndexOutOfBoundsException, IllegalArgumentException {
-        needPlace(line.has(k));
+        needPlace(line.hasRow(k));
         needArgument(isWithin(what, 0, 4));
         Row row = line.rows[k];
         switch (what) {
@@ -715,7 +715,7 @@ public final class Agenttree {
     }
 
     public String rowText(int k) throws IndexOutOfBoundsException {
-        needPlace(line.has(k));
+        needPlace(line.hasRow(k));
         writeRow(line.rows[k]);
         return text.toString();
     }
@@ -731,12 +731,12 @@ public final class Agenttree {
     }
 
     public int byteOf(int k, int place) throws IndexOutOfBoundsException {
-        needPlace(line.has(k) && line.rows[k].has(place));
+        needPlace(line.hasRow(k) && line.rows[k].hasByte(place));
         return line.rows[k].bytes[place];
     }
 
     public int pass(int k) throws IndexOutOfBoundsException {
-        needPlace(line.has(k));
+        needPlace(line.hasRow(k));
         come(k);
         return line.count;
     }
@@ -752,14 +752,14 @@ public final class Agenttree {
     }
 
     public int lose(int k) throws IndexOutOfBoundsException {
-        needPlace(line.has(k));
+        needPlace(line.hasRow(k));
         line.remove(k);
         line.lost++;
         return line.count;
     }
 
     public int twice(int k) throws IndexOutOfBoundsException {
-        needPlace(line.has(k));
+        needPlace(line.hasRow(k));
         return repeat(line.rows[k]);
     }
 
@@ -775,7 +775,7 @@ public final class Agenttree {
     }
 
     public int spoil(int k, int place, int with) throws IndexOutOfBoundsException, IllegalArgumentException {
-        needPlace(line.has(k) && line.rows[k].has(place));
+        needPlace(line.hasRow(k) && line.rows[k].hasByte(place));
         needArgument(isWithin(with, 0, 255));
         int before = line.rows[k].bytes[place];
         line.rows[k].bytes[place] = with;
@@ -783,7 +783,7 @@ public final class Agenttree {
     }
 
     public int record(int k, int slot) throws IndexOutOfBoundsException {
-        needPlace(line.has(k) && isWithin(slot, 0, RECORDS - 1));
+        needPlace(line.hasRow(k) && isWithin(slot, 0, RECORDS - 1));
         line.records[slot].takeRow(line.rows[k]);
         return line.records[slot].length;
     }
@@ -813,7 +813,7 @@ public final class Agenttree {
     }
 
     public int fetch(int k) throws IndexOutOfBoundsException {
-        needPlace(line.has(k));
+        needPlace(line.hasRow(k));
         bench.takeRow(line.rows[k]);
         return bench.length;
     }
@@ -1148,7 +1148,7 @@ public final class Agenttree {
         private void writeOctets(StringBuilder into) {
             into.append('\'');
             for (int i = 0; i < count && i < MOST_OCTETS; i++) {
-                boolean isPlain = isWithin(parts[i], 32, 126) && parts[i] != 39;
+                boolean isPlain = parts[i] >= 32 && parts[i] <= 126 && parts[i] != 39;
                 into.append(isPlain ? (char) parts[i] : '?');
             }
             into.append('\'');
@@ -1268,7 +1268,7 @@ public final class Agenttree {
         int to;
         int at;
 
-        boolean has(int place) {
+        boolean hasByte(int place) {
             return place >= 0 && place < length && place < MOST_BYTES;
         }
 
@@ -1567,13 +1567,15 @@ public final class Agenttree {
         }
 
         private void octetsTo(int end, int begin, Binding into) {
-            if (end - place > MOST_OCTETS) {
-                fail(begin);
+            if (end - place > MOST_OCTETS && fault == NONE) {
+                fault = begin;
             }
             for (int i = place; i >= 0 && i < end && i < bytes.length && fault == NONE; i++) {
                 into.add(bytes[i]);
             }
-            skipTo(end);
+            if (fault == NONE) {
+                place = end;
+            }
         }
 
         /** Makes the row of a MESSAGE; returns how many bytes it has (the row gets none, if there are more than 255). */
@@ -1589,7 +1591,7 @@ public final class Agenttree {
             int length = BUFFER - start;
             into.takeBytes(buffer, start, length);
             int sumPlace = sumStart - start;
-            if (of.level > 0 && into.has(sumPlace) && into.has(sumPlace + 1)) {
+            if (of.level > 0 && into.hasByte(sumPlace) && into.hasByte(sumPlace + 1)) {
                 of.sum = into.sumBy(key, sumPlace);
                 into.bytes[sumPlace] = of.sum / 256;
                 into.bytes[sumPlace + 1] = of.sum % 256;
@@ -1601,7 +1603,7 @@ public final class Agenttree {
         void encodeAgain(Message of, Row from, Row into) {
             start = BUFFER;
             if (of.level == 2) {
-                for (int i = of.cipherPlace + of.cipherLength - 1; i >= of.cipherPlace && from.has(i) && start > 0; i--) {
+                for (int i = of.cipherPlace + of.cipherLength - 1; i >= of.cipherPlace && from.hasByte(i) && start > 0; i--) {
                     start--;
                     buffer[start] = from.bytes[i];
                 }
@@ -1615,14 +1617,14 @@ public final class Agenttree {
 
         private void putFront(Message of) {
             putNumber(TAG_INTEGER, of.salt);
-            int after = start;
+            int end = start;
             if (of.level > 0 && start > 1) {
                 start -= 2;
                 buffer[start] = of.sum >> 8 & 255;
                 buffer[start + 1] = of.sum & 255;
             }
             sumStart = start;
-            putHead(TAG_OCTETS, after);
+            putHead(TAG_OCTETS, end);
             putNumber(TAG_INTEGER, of.user);
             putNumber(TAG_INTEGER, of.time);
             putNumber(TAG_INTEGER, of.boots);
@@ -1636,14 +1638,17 @@ public final class Agenttree {
         private void putScope(Message of) {
             for (int i = Math.min(of.count, MOST_BINDINGS) - 1; i >= 0; i--) {
                 Binding binding = of.bindings[i];
-                int after = start;
+                int end = start;
                 if (binding.tag == TAG_INTEGER || binding.tag == TAG_COUNTER || binding.tag == TAG_TICKS) {
                     putNumber(binding.tag, binding.number);
                 } else {
-                    putParts(binding.tag, binding.parts, binding.count);
+                    putParts(binding.parts, binding.count, binding.tag == TAG_NAME);
+                    putHead(binding.tag, end);
                 }
-                putParts(TAG_NAME, binding.name.numbers, binding.name.count);
-                putHead(TAG_LIST, after);
+                int nameEnd = start;
+                putParts(binding.name.numbers, binding.name.count, true);
+                putHead(TAG_NAME, nameEnd);
+                putHead(TAG_LIST, end);
             }
             putHead(TAG_LIST, BUFFER);
             putNumber(TAG_INTEGER, of.index);
@@ -1655,11 +1660,11 @@ public final class Agenttree {
         }
 
         /** Puts the TAG and the LENGTH ahead of a CONTENT that ends at a place. */
-        private void putHead(int tag, int after) {
+        private void putHead(int tag, int end) {
             if (start < 3) {
                 return;
             }
-            int length = after - start;
+            int length = end - start;
             start--;
             buffer[start] = length & 255;
             if (length >= 128) {
@@ -1674,7 +1679,7 @@ public final class Agenttree {
             if (start < 6) {
                 return;
             }
-            int after = start;
+            int end = start;
             int rest = value;
             for (int i = 0; i < 4; i++) {
                 start--;
@@ -1685,17 +1690,16 @@ public final class Agenttree {
                     break;
                 }
             }
-            int length = after - start;
+            int length = end - start;
             start -= 2;
             buffer[start] = tag;
             buffer[start + 1] = length;
         }
 
-        /** Puts OCTETS, a NAME, or a VALUE without CONTENT. */
-        private void putParts(int tag, int[] parts, int count) {
-            int after = start;
+        /** Puts the bytes of OCTETS, or the numbers of a NAME. */
+        private void putParts(int[] parts, int count, boolean isName) {
             for (int i = Math.min(count, parts.length) - 1; i >= 0 && start > 1; i--) {
-                boolean isLong = tag == TAG_NAME && parts[i] >= 128;
+                boolean isLong = isName && parts[i] >= 128;
                 start--;
                 buffer[start] = isLong ? parts[i] % 128 : parts[i];
                 if (isLong) {
@@ -1703,7 +1707,6 @@ public final class Agenttree {
                     buffer[start] = 128 + parts[i] / 128;
                 }
             }
-            putHead(tag, after);
         }
     }
 
@@ -1727,7 +1730,7 @@ public final class Agenttree {
             }
         }
 
-        boolean has(int k) {
+        boolean hasRow(int k) {
             return k >= 0 && k < count && k < MOST_ROWS;
         }
 
@@ -1754,7 +1757,7 @@ public final class Agenttree {
         }
 
         void remove(int k) {
-            if (!has(k)) {
+            if (!hasRow(k)) {
                 return;
             }
             Row gone = rows[k];
@@ -2082,9 +2085,19 @@ public final class Agenttree {
 
         /** The first SLOT of an OBJECT behind a NAME that a VIEW has, NONE without. */
         private int slotBehind(int context, Name name, View view) {
-            for (int slot = 0; slot < SLOTS; slot++) {
-                Name of = at(context, slot).name;
-                if (isThere(context, slot) && of.compareWith(name) > 0 && view.holds(of)) {
+            int first = 0;
+            int end = SLOTS;
+            // No SLOT ahead of the first is behind the NAME, each from the end on is.
+            for (int i = 0; i < SLOTS && first < end; i++) {
+                int middle = (first + end) / 2;
+                if (objects[middle].name.compareWith(name) > 0) {
+                    end = middle;
+                } else {
+                    first = middle + 1;
+                }
+            }
+            for (int slot = first; slot < SLOTS; slot++) {
+                if (isThere(context, slot) && view.holds(at(context, slot).name)) {
                     return slot;
                 }
             }

@@ -3,7 +3,7 @@ public final class AllTests {
     private AllTests() {
     }
 
-    public static void main(String[] args) {
+    public static void main(String[] args) throws Exception {
         AgentTests.run();
         HandTests.run();
         ViewTests.run();
@@ -15,6 +15,7 @@ public final class AllTests {
         LineTests.run();
         WholeTests.run();
         ModelTests.run();
+        LanguageTests.run();
         System.out.println("checks: " + Check.passed + " passed, " + Check.failed + " failed");
         if (Check.failed > 0 || Check.passed == 0) {
             System.exit(1);
