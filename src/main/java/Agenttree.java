@@ -227,7 +227,7 @@ public final class Agenttree {
             case 6: return agent.informs.size();
             case 7: return agent.lastNotice;
             case 8: return line.ciphered[AGENT];
-            default: return agent.takenLately();
+            default: return agent.taken;
         }
     }
 
@@ -2313,6 +2313,7 @@ public final class Agenttree {
         private int[] takenUsers = new int[32];
         private int[] takenIds = new int[32];
         private int[] takenTimes = new int[32];
+        // TIME goes on by tick() alone, and that forgets what was TAKEN more than 30 TICKS ago.
         private int taken;
 
         Agent() {
@@ -2428,9 +2429,8 @@ public final class Agenttree {
         }
 
         private boolean wasTaken(int user, int id) {
-            int least = tree.time() - 30;
             for (int i = 0; i < taken && i < takenIds.length; i++) {
-                if (takenUsers[i] == user && takenIds[i] == id && takenTimes[i] >= least) {
+                if (takenUsers[i] == user && takenIds[i] == id) {
                     return true;
                 }
             }
@@ -2449,15 +2449,6 @@ public final class Agenttree {
                 takenTimes[taken] = tree.time();
                 taken++;
             }
-        }
-
-        int takenLately() {
-            int least = tree.time() - 30;
-            int many = 0;
-            for (int i = 0; i < taken && i < takenIds.length; i++) {
-                many += takenTimes[i] >= least ? 1 : 0;
-            }
-            return many;
         }
 
         void forgetOldRows() {

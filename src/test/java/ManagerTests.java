@@ -10,6 +10,7 @@ final class ManagerTests {
         promise31();
         promise33();
         refusedSends();
+        salts();
         learning();
         answers();
         dropped();
@@ -201,6 +202,69 @@ final class ManagerTests {
         Check.badPlace(x, "send(2) with 16 under way", () -> x.send(2));
         x.lose(3);
         Check.is("with 15 under way", x.send(1) >= 0);
+    }
+
+    /** Asks 16 times by the LEVEL 2, again and again; all is answered. */
+    private static void askSecretly(Agenttree x, int rounds) {
+        for (int round = 0; round < rounds; round++) {
+            for (int i = 0; i < 16; i++) {
+                x.send(0);
+            }
+            x.passAll(40);
+        }
+    }
+
+    /** From 128 on a SALT has two bytes; behind 255 it is 0 again. */
+    private static void salts() {
+        Agenttree x = new Agenttree();
+        Talk.learn(x, 0);
+        x.draft(0, 2, 0, 0, 0);
+        askSecretly(x, 8);
+        x.send(0);
+        Check.same("SALT 128 of the MANAGER", "128:", salt(x));
+        x.pass(0);
+        Check.same("SALT 128 of the agent", "128:", salt(x));
+        x.pass(0);
+        Check.same("both are known", 130, x.ofManager(0, 7));
+        int[] name = Rows.name("999.998.997.996.995.994.993.992");
+        Talk.hold(x, "999.998.997.996.995.994.993.992");
+        x.shelve();
+        // Rows of 254 to 259 bytes, with the SALT.
+        for (int n = 0; n <= 5; n++) {
+            x.draft(0, 2, 0, 0, 0);
+            for (int i = 0; i < 4; i++) {
+                x.bind(5, 0);
+            }
+            x.bind(0, 0);
+            Talk.spell(x, "abcdefghijkl".substring(0, n));
+            x.bind(2, 0);
+            int[] two = Rows.list(name, name);
+            int[] scope = Rows.scope(0, Rows.pdu(0, 300, 0, 0, two, two, two, two, Rows.list(name, Rows.empty(5)),
+                    Rows.list(name, Rows.octets("abcdefghijkl".substring(0, n)))));
+            // A row of the LEVEL 0 between leaves no SALT behind.
+            Talk.come(x, 1, Rows.plain(1, 1, Rows.scope(0, Rows.pdu(0, 1, 0, 0))));
+            x.lose(0);
+            int due = Rows.sealed(300, 2, 7, 1, 0, 0, 1000, 130, scope).length;
+            int answer = x.send(0);
+            Check.same("a row of " + due, due <= 255, answer >= 0);
+            if (answer >= 0) {
+                Check.same("its bytes", due, x.ofRow(0, 2));
+                x.lose(0);
+            }
+        }
+        int sent = x.ofManager(0, 10);
+        x.draft(0, 2, 0, 0, 0);
+        askSecretly(x, (256 - sent) / 16);
+        for (int i = x.ofManager(0, 10); i < 256; i++) {
+            x.send(0);
+            x.lose(0);
+        }
+        x.send(0);
+        Check.same("SALT 0 again", "0:", salt(x));
+    }
+
+    private static String salt(Agenttree x) {
+        return x.rowText(0).split(" ")[7];
     }
 
     private static int length(int octets) {

@@ -241,6 +241,10 @@ final class ReadingTests {
                 fault(x, "bytes behind in part " + i, row, row.placeOf(part, 0) + part.bytes().length - 2);
             }
         }
+        Part row = whole();
+        Part first = row.parts.get(9).parts.get(1).parts.get(3).parts.get(0);
+        first.behind = Rows.binding("1", Rows.empty(5));
+        fault(x, "a BINDING within a BINDING", row, row.placeOf(first, 0) + first.bytes().length - first.behind.length);
         int[] whole = whole().bytes();
         Talk.lay(x, Rows.join(whole, Rows.of(0)));
         Check.same("FAULT behind the MESSAGE", whole.length, x.fault());

@@ -13,6 +13,7 @@ final class RequestTests {
         setsOfNotes();
         noteWithAll();
         most();
+        mostWithLongSalts();
         silentKinds();
     }
 
@@ -302,6 +303,32 @@ final class RequestTests {
         Check.same("a BULK with just MOST bytes", all, bulk(x, 9, 0, "1.1", "2.2", "2.2.1", "2.2.2", "2.2.3"));
         x.most(100);
         Check.is("a BULK of few bytes", bulk(x, 9, 0, "1.1", "2.2", "2.2.1", "2.2.2", "2.2.3").length() < 60);
+    }
+
+    private static void mostWithLongSalts() {
+        Agenttree x = open();
+        x.draft(Talk.GET, 2, 0, 0, 0);
+        for (int round = 0; round < 8; round++) {
+            for (int i = 0; i < 16; i++) {
+                x.send(0);
+            }
+            x.passAll(40);
+        }
+        Check.same("rows of the LEVEL 2", 128, x.ofAgent(8));
+        Talk.bind(x, "900.900.900.900.900.900.900.900", "900.900.900.900.900.900.900.901", "900");
+        x.send(0);
+        x.pass(0);
+        int bytes = x.ofRow(0, 2);
+        x.pass(0);
+        // A row of the LEVEL 1 between leaves a SALT of one byte behind.
+        x.most(bytes);
+        Talk.come(x, 0, Rows.plain(1, 0, Rows.scope(0, Rows.pdu(0, 1, 0, 0))));
+        x.pass(0);
+        Check.same("a SALT of two bytes fits", "0 0", status(Talk.sendAndPass(x, 0)));
+        x.most(bytes - 1);
+        Talk.come(x, 0, Rows.plain(1, 0, Rows.scope(0, Rows.pdu(0, 1, 0, 0))));
+        x.pass(0);
+        Check.same("a SALT of two bytes does not fit", "1 0", status(Talk.sendAndPass(x, 0)));
     }
 
     private static void silentKinds() {
