@@ -1906,16 +1906,18 @@ public final class Agenttree {
             for (int i = 0; i < CONTEXTS * SLOTS; i++) {
                 Binding object = new Binding();
                 nameSlot(i % SLOTS, object.name);
-                int a = object.name.numberAt(0);
-                int b = object.name.numberAt(1);
-                object.tag = tagOf(a, b);
-                if (a == 2 && b == 1) {
-                    object.number = object.name.numberAt(2);
-                } else {
-                    object.number = b == 3 && a != 1 && a != 4 ? 1 : 0;
-                }
+                object.setNumber(tagOf(object.name.numberAt(0), object.name.numberAt(1)), firstNumber(object.name));
                 objects[i] = object;
             }
+        }
+
+        private static int firstNumber(Name name) {
+            int a = name.numberAt(0);
+            int b = name.numberAt(1);
+            if (a == 2 && b == 1) {
+                return name.numberAt(2);
+            }
+            return (a == 2 || a == 3) && b == 3 ? 1 : 0;
         }
 
         static int slotOfPort(int column, int port) {
