@@ -283,21 +283,14 @@ public final class Agenttree {
 
     public int name(int a, int b, int c, int d) throws IllegalArgumentException {
         needArgument(areNumbers(a, b, c, d) && countOf(a, b, c, d, NONE) > 0);
-        inHand.count = 0;
-        return lengthen(a, b, c, d);
+        inHand.become(a, b, c, d);
+        return inHand.count;
     }
 
     public int longer(int a, int b, int c, int d) throws IllegalArgumentException, IllegalStateException {
         needArgument(areNumbers(a, b, c, d));
         needState(inHand.count > 0 && inHand.count + countOf(a, b, c, d, NONE) <= MOST_NUMBERS);
-        return lengthen(a, b, c, d);
-    }
-
-    private int lengthen(int a, int b, int c, int d) {
-        inHand.add(a);
-        inHand.add(b);
-        inHand.add(c);
-        inHand.add(d);
+        inHand.grow(a, b, c, d);
         return inHand.count;
     }
 
@@ -1046,6 +1039,10 @@ public final class Agenttree {
 
         void become(int a, int b, int c, int d) {
             count = 0;
+            grow(a, b, c, d);
+        }
+
+        void grow(int a, int b, int c, int d) {
             add(a);
             add(b);
             add(c);

@@ -11,6 +11,7 @@ final class GuardTests {
         sums();
         times();
         takenOnes();
+        manyTaken();
         ciphers();
         secretAnswers();
     }
@@ -125,6 +126,27 @@ final class GuardTests {
             Check.is("of the LEVEL 0 again and again", come(x, Rows.plain(6, 0, SCOPE)).contains(" response 44 0 0, 1.2.0=0"));
         }
         Check.same("those are not TAKEN", 2, x.ofAgent(9));
+    }
+
+    private static void manyTaken() {
+        Agenttree x = new Agenttree();
+        Talk.learn(x, 0);
+        x.draft(0, 1, 0, 0, 0);
+        for (int n = 0; n < 100; n++) {
+            x.send(0);
+            if (n == 0 || n == 32 || n == 64 || n == 99) {
+                x.record(0, n / 32);
+            }
+            x.passAll(2);
+        }
+        Check.same("TAKEN", 100, x.ofAgent(9));
+        for (int slot = 0; slot < 4; slot++) {
+            x.replay(slot);
+            Check.same("nothing is SENT to one that was TAKEN", 0, x.pass(0));
+            Check.same("4.7.0", "c" + (slot + 1), Talk.value(x, 0, "4.7.0"));
+        }
+        x.tick(31);
+        Check.same("TAKEN 31 TICKS ago", 0, x.ofAgent(9));
     }
 
     private static void ciphers() {
