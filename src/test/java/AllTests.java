@@ -15,6 +15,21 @@ public final class AllTests {
         LineTests.run();
         WholeTests.run();
         ModelTests.run();
+        ThrowsTests.run();
+        BytesEdges.run();
+        FaultEdges.run();
+        SumEdges.run();
+        TreeEdges.run();
+        ViewEdges.run();
+        AgentEdges.run();
+        RequestEdges.run();
+        SetEdges.run();
+        NoticeEdges.run();
+        ManagerEdges.run();
+        LineEdges.run();
+        TextEdges.run();
+        StatesTests.run();
+        Doc.checkThatAllIsQuoted();
         LanguageTests.run();
         System.out.println("checks: " + Check.passed + " passed, " + Check.failed + " failed");
         if (Check.failed > 0 || Check.passed == 0) {

@@ -50,11 +50,9 @@ final class Check {
 
     /** A call tells REFUSED, and changes nothing but how often that was told. */
     static void refused(Agenttree x, String what, Call call) {
-        int refusedBefore = x.house(3);
-        String before = Talk.stateBut3(x);
+        long before = x.digest();
         same(what, -9, call.run());
-        same(what + ", then house(3)", refusedBefore + 1, x.house(3));
-        same(what + ", then the rest", before, Talk.stateBut3(x));
+        same(what + ", then digest()", before + Face.REFUSED_ONCE, x.digest());
     }
 
     private static void count(boolean isRight, String what) {

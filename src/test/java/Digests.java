@@ -1,3 +1,6 @@
+import java.util.ArrayList;
+import java.util.List;
+
 /** The digest by what else the object answers; it puts HAND back as it was. */
 final class Digests {
     private static final String[] COLUMNS = {"1.1.0", "1.2.0", "1.3.0", "2.1.p", "2.2.p", "2.3.p", "2.4.p", "2.5.p",
@@ -32,24 +35,36 @@ final class Digests {
         }
     }
 
+    private void mixObjects(Agenttree x, int context) {
+        List<String> notes = new ArrayList<>();
+        for (int n = 0; n < 12; n++) {
+            String note = n / 4 + 1 + "." + (n % 4 + 1);
+            if (!Talk.value(x, context, "3.3." + note).isEmpty()) {
+                notes.add(note);
+            }
+        }
+        for (String column : COLUMNS) {
+            String stem = column.substring(0, 4);
+            boolean isOfBoth = column.startsWith("1.1") || column.startsWith("1.2");
+            for (int p = 1; p <= 4 && column.endsWith("p") && context == 0; p++) {
+                mixObject(x, context, stem + p);
+            }
+            for (int n = 0; n < notes.size() && column.endsWith("n"); n++) {
+                mixObject(x, context, stem + notes.get(n));
+            }
+            if (column.endsWith("0") && (context == 0 || isOfBoth)) {
+                mixObject(x, context, column);
+            }
+        }
+    }
+
     private void mixAll(Agenttree x) {
         String hand = x.hand();
         for (int i = 0; i < 10; i++) {
             mix(x.ofAgent(i));
         }
         for (int context = 0; context < 2; context++) {
-            for (String column : COLUMNS) {
-                String stem = column.substring(0, 4);
-                for (int p = 1; p <= 4 && column.endsWith("p"); p++) {
-                    mixObject(x, context, stem + p);
-                }
-                for (int n = 0; n < 12 && column.endsWith("n"); n++) {
-                    mixObject(x, context, stem + (n / 4 + 1) + "." + (n % 4 + 1));
-                }
-                if (column.endsWith("0")) {
-                    mixObject(x, context, column);
-                }
-            }
+            mixObjects(x, context);
         }
         mix(hand);
         if (!hand.isEmpty()) {
@@ -73,7 +88,8 @@ final class Digests {
                 mix(x.ofManager(manager, what));
             }
             mix(x.answer(manager));
-            for (int k = 0; k < x.ofManager(manager, 8); k++) {
+            int told = x.ofManager(manager, 8);
+            for (int k = 0; k < told; k++) {
                 mix(x.told(manager, k));
             }
         }
@@ -82,11 +98,13 @@ final class Digests {
     }
 
     private void mixLine(Agenttree x) {
-        for (int k = 0; k < x.rows(); k++) {
+        int rows = x.rows();
+        for (int k = 0; k < rows; k++) {
             for (int what = 0; what < 5; what++) {
                 mix(x.ofRow(k, what));
             }
-            for (int place = 0; place < x.ofRow(k, 2); place++) {
+            int bytes = x.ofRow(k, 2);
+            for (int place = 0; place < bytes; place++) {
                 mix(x.byteOf(k, place));
             }
         }

@@ -11,11 +11,7 @@ final class ManagerTests {
         promise33();
         refusedSends();
         salts();
-        learning();
-        answers();
-        dropped();
         promise36();
-        informsAreAnswered();
         wrongInputs();
     }
 
@@ -274,172 +270,26 @@ final class ManagerTests {
         return Rows.plain(0, 0, Rows.scope(0, Rows.pdu(0, 0, 0, 0, two, two, two, two, Rows.list(name, Rows.empty(5)), last))).length;
     }
 
-    /** A row of this side's making comes to a MANAGER: the bytes of one of the agent, of the same length, are spoiled. */
-    private static void toManager(Agenttree x, int manager, int[] row) {
-        Talk.lay(x, asking(row.length));
-        x.inject(manager);
-        x.pass(x.rows() - 1);
-        int k = x.rows() - 1;
-        Check.same("bytes of a row to be spoiled", row.length, x.ofRow(k, 2));
-        for (int i = 0; i < row.length; i++) {
-            x.spoil(k, i, row[i]);
-        }
-        x.pass(k);
-    }
-
-    /** A GET that is answered by a row of so many bytes (46, or 53 and more). */
-    private static int[] asking(int length) {
-        int[] bindings = {};
-        int rest = length - 46;
-        while (rest > 0) {
-            int name = rest <= 22 ? rest - 6 : rest >= 29 ? 16 : 7;
-            int[] numbers = new int[(name + 1) / 2];
-            for (int i = 0; i < numbers.length; i++) {
-                numbers[i] = i == 0 && name % 2 == 1 ? 9 : 900;
-            }
-            bindings = Rows.join(bindings, Rows.list(Rows.name(numbers), Rows.empty(5)));
-            rest -= 6 + name;
-        }
-        return Rows.plain(0, 0, Rows.scope(0, Rows.pdu(0, 0, 0, 0, bindings)));
-    }
-
-    private static int[] head(int id, int engine, int boots, int time, int user, int[] scope) {
-        return Rows.list(Rows.integer(3), Rows.integer(id), Rows.integer(0), Rows.integer(engine), Rows.integer(boots),
-                Rows.integer(time), Rows.integer(user), Rows.octets(""), Rows.integer(0), scope);
-    }
-
     private static final int[] NULL = Rows.binding("1.2", Rows.empty(5));
 
     private static int[] scope(int kind, int request) {
         return Rows.scope(0, Rows.pdu(kind, request, 0, 0, NULL));
     }
 
-    private static String knows(Agenttree x, int manager) {
-        return x.ofManager(manager, 2) + " " + x.ofManager(manager, 3) + " " + x.ofManager(manager, 4);
-    }
-
-    private static void learning() {
-        Agenttree x = new Agenttree();
-        toManager(x, 0, head(5, 8, 3, 20, 0, scope(0, 0)));
-        Check.same("nothing of another ENGINE", "0 0 0", knows(x, 0));
-        toManager(x, 0, head(5, 7, 3, 20, 1, scope(0, 0)));
-        Check.same("nothing for another USER", "0 0 0", knows(x, 0));
-        toManager(x, 0, head(5, 7, 3, 20, 0, scope(0, 0)));
-        Check.same("of the LEVEL 0 without an ENGINE", "7 3 20", knows(x, 0));
-        toManager(x, 0, head(5, 7, 4, 99, 0, scope(0, 0)));
-        Check.same("not of the LEVEL 0 with one", "7 3 20", knows(x, 0));
-        x.tick(5);
-        toManager(x, 0, Rows.sealed(5, 1, 7, 3, 25, 0, 1000, 0, scope(0, 0)));
-        Check.same("the same TIME", "7 3 25", knows(x, 0));
-        toManager(x, 0, Rows.sealed(5, 1, 7, 3, 26, 0, 1000, 0, scope(0, 0)));
-        Check.same("a TIME above", "7 3 26", knows(x, 0));
-        toManager(x, 0, Rows.sealed(5, 1, 7, 3, 25, 0, 1000, 0, scope(0, 0)));
-        Check.same("a TIME below", "7 3 26", knows(x, 0));
-        toManager(x, 0, Rows.sealed(5, 1, 7, 2, 99, 0, 1000, 0, scope(0, 0)));
-        Check.same("BOOTS below", "7 3 26", knows(x, 0));
-        toManager(x, 0, Rows.sealed(5, 1, 8, 9, 99, 0, 1000, 0, scope(0, 0)));
-        Check.same("another ENGINE", "7 3 26", knows(x, 0));
-        toManager(x, 0, Rows.sealed(5, 1, 7, 9, 99, 0, 1001, 0, scope(0, 0)));
-        Check.same("a wrong SUM", "7 3 26", knows(x, 0));
-        toManager(x, 0, Rows.sealed(5, 2, 7, 4, 1, 0, 1000, 0, scope(0, 0)));
-        Check.same("BOOTS above", "7 4 1", knows(x, 0));
-        toManager(x, 0, Rows.sealed(5, 2, 7, 4, 8, 0, 1000, 0, Rows.join(scope(0, 0), Rows.of(0))));
-        Check.same("though it is not deciphered", "7 4 8", knows(x, 0));
-        Check.same("all of these were dropped", 12, x.ofManager(0, 9));
-        Check.same("the other MANAGER", "0 0 5", knows(x, 1));
-        x.forget(0);
-        toManager(x, 0, Rows.sealed(5, 1, 7, 0, 0, 0, 1000, 0, scope(0, 0)));
-        Check.same("nothing above what it KNOWS", "0 0 0", knows(x, 0));
-        toManager(x, 0, Rows.sealed(5, 1, 7, 0, 1, 0, 1000, 0, scope(0, 0)));
-        Check.same("a TIME above, without an ENGINE", "7 0 1", knows(x, 0));
-        toManager(x, 0, Rows.sealed(5, 1, 7, 9, 2147483647, 0, 1000, 0, scope(0, 0)));
-        x.tick(1);
-        Check.same("TIME wraps around", "7 9 -2147483648", knows(x, 0));
-    }
-
-    private static void answers() {
-        Agenttree x = new Agenttree();
-        x.draft(0, 1, 0, 0, 0);
-        for (int i = 0; i < 7; i++) {
-            x.send(0);
-            x.send(1);
-            x.lose(0);
-            x.lose(0);
-        }
-        Check.same("OPEN", 7, x.ofManager(0, 6));
-        toManager(x, 0, head(2, 7, 1, 0, 0, scope(2, 2)));
-        Check.same("a RESPONSE of a lower LEVEL", "7 0 ", state(x));
-        toManager(x, 0, Rows.sealed(2, 1, 7, 1, 0, 0, 1000, 0, scope(2, 4)));
-        Check.same("REQUEST and ID of two", "7 0 ", state(x));
-        toManager(x, 0, Rows.sealed(3, 1, 7, 1, 0, 0, 1000, 0, scope(2, 3)));
-        Check.same("an ID of the other MANAGER", "7 0 ", state(x));
-        toManager(x, 0, Rows.sealed(14, 1, 7, 1, 0, 0, 1000, 0, scope(2, 14)));
-        Check.same("an ID that was not SENT", "7 0 ", state(x));
-        toManager(x, 0, Rows.sealed(-2, 1, 7, 1, 0, 0, 1000, 0, scope(2, -2)));
-        Check.same("an ID below 0", "7 0 ", state(x));
-        Check.same("all dropped", 5, x.ofManager(0, 9));
-        toManager(x, 0, Rows.sealed(2, 1, 7, 1, 0, 0, 1000, 0, scope(2, 2)));
-        Check.same("of its LEVEL", "6 1 0 response 2 0 0, 1.2=null", state(x));
-        Check.same("the ID", 2, x.ofManager(0, 11));
-        toManager(x, 0, Rows.sealed(2, 1, 7, 1, 0, 0, 1000, 0, scope(2, 2)));
-        Check.same("OPEN no more", 6, x.ofManager(0, 9));
-        toManager(x, 0, Rows.sealed(12, 2, 7, 1, 0, 0, 1000, 0, scope(2, 12)));
-        Check.same("of a higher LEVEL", "5 2 0 response 12 0 0, 1.2=null", state(x));
-        toManager(x, 0, head(4, 9, 1, 0, 0, scope(7, 99)));
-        Check.same("a REPORT of a lower LEVEL and another ENGINE", "4 3 0 report 99 0 0, 1.2=null", state(x));
-        toManager(x, 0, Rows.sealed(6, 2, 7, 1, 0, 0, 1000, 0, scope(7, 0)));
-        Check.same("a REPORT of a higher LEVEL", "3 4 0 report 0 0 0, 1.2=null", state(x));
-        Check.same("the ID", 6, x.ofManager(0, 11));
-        toManager(x, 0, Rows.sealed(5, 2, 7, 1, 0, 0, 1000, 0, scope(7, 0)));
-        Check.same("a REPORT with an ID of the other MANAGER", "3 4 0 report 0 0 0, 1.2=null", state(x));
-        Check.same("the other MANAGER", 7, x.ofManager(1, 6));
-        Check.badPlace(x, "answer(-1)", () -> x.answer(-1));
-        Check.badPlace(x, "answer(2)", () -> x.answer(2));
-    }
-
-    private static String state(Agenttree x) {
-        return x.ofManager(0, 6) + " " + x.ofManager(0, 7) + " " + x.answer(0);
-    }
-
-    private static void dropped() {
-        Agenttree x = new Agenttree();
-        x.send(0);
-        x.lose(0);
-        int due = 0;
-        for (int kind : new int[] {0, 1, 3, 4}) {
-            toManager(x, 0, head(0, 7, 1, 0, 0, scope(kind, 0)));
-            due++;
-            Check.same("the KIND " + kind + " is dropped", due, x.ofManager(0, 9));
-        }
-        toManager(x, 0, Rows.join(head(0, 7, 1, 0, 0, scope(5, 0)), Rows.of(0)));
-        Check.same("a FAULT", due + 1, x.ofManager(0, 9));
-        toManager(x, 0, head(0, 7, 1, 0, 1, scope(5, 0)));
-        Check.same("another USER", due + 2, x.ofManager(0, 9));
-        toManager(x, 0, Rows.sealed(0, 1, 7, 1, 0, 0, 1001, 0, scope(5, 0)));
-        Check.same("another SUM", due + 3, x.ofManager(0, 9));
-        toManager(x, 0, Rows.sealed(0, 2, 7, 1, 0, 0, 1000, 0, Rows.join(scope(5, 0), Rows.of(0))));
-        Check.same("not deciphered", due + 4, x.ofManager(0, 9));
-        Check.same("nothing was told", 0, x.ofManager(0, 8));
-        Check.same("still OPEN", 1, x.ofManager(0, 6));
-        x.speak(0, 1, 77);
-        toManager(x, 0, Rows.sealed(0, 1, 7, 1, 0, 1, 77, 0, scope(2, 0)));
-        Check.same("by its USER and KEY of now", 1, x.ofManager(0, 7));
-    }
-
     private static void promise36() {
         Agenttree x = new Agenttree();
-        toManager(x, 0, head(9, 7, 3, 0, 0, scope(5, 40)));
-        toManager(x, 0, head(9, 9, 4, 0, 0, scope(5, 40)));
-        toManager(x, 0, Rows.sealed(8, 2, 7, 3, 0, 0, 1000, 0, scope(6, -40)));
+        Forge.toManager(x, 0, Rows.open(9, 7, 3, 0, 0, scope(5, 40)));
+        Forge.toManager(x, 0, Rows.open(9, 9, 4, 0, 0, scope(5, 40)));
+        Forge.toManager(x, 0, Rows.sealed(8, 2, 7, 3, 0, 0, 1000, 0, scope(6, -40)));
         Check.same("three told", 3, x.ofManager(0, 8));
         Check.same("told(0, 0)", "3 0 trap 40 0 0, 1.2=null", x.told(0, 0));
         Check.same("told(0, 1)", "4 0 trap 40 0 0, 1.2=null", x.told(0, 1));
         Check.same("told(0, 2)", "3 0 inform -40 0 0, 1.2=null", x.told(0, 2));
         x.lose(0);
-        toManager(x, 0, Rows.sealed(8, 1, 7, 4, 0, 0, 1000, 0, scope(5, 40)));
+        Forge.toManager(x, 0, Rows.sealed(8, 1, 7, 4, 0, 0, 1000, 0, scope(5, 40)));
         Check.same("a TRAP that was told is dropped", 1, x.ofManager(0, 9));
         Check.same("nothing is SENT", 0, x.rows());
-        toManager(x, 0, head(8, 7, 4, 0, 0, scope(6, 40)));
+        Forge.toManager(x, 0, Rows.open(8, 7, 4, 0, 0, scope(6, 40)));
         Check.same("an INFORM with the REQUEST of a TRAP is not told", 3, x.ofManager(0, 8));
         Check.same("it is not dropped", 1, x.ofManager(0, 9));
         Check.same("it gets a RESPONSE", "8 0 7 4 0 0 -1 0: 0 response 40 0 0, 1.2=null", x.rowText(0));
@@ -449,32 +299,6 @@ final class ManagerTests {
         Check.badPlace(x, "told(0, -1)", () -> x.told(0, -1));
         Check.badPlace(x, "told(0, 3)", () -> x.told(0, 3));
         Check.badPlace(x, "told(1, 0)", () -> x.told(1, 0));
-    }
-
-    private static void informsAreAnswered() {
-        Agenttree x = new Agenttree();
-        int[] inform = Rows.scope(4, Rows.pdu(6, 50, 7, 300, NULL));
-        int[] response = Rows.scope(4, Rows.pdu(2, 50, 0, 0, NULL));
-        int[] one = Rows.sealed(9, 1, 7, 3, 5, 0, 1000, 0, inform);
-        int[] two = Rows.sealed(10, 2, 8, 3, 5, 0, 1000, 77, inform);
-        toManager(x, 0, head(-8, 6, 3, 5, 0, inform));
-        Check.same("of the LEVEL 0", java.util.Arrays.toString(head(-8, 6, 3, 5, 0, response)), GuardTests.bytes(x));
-        Check.same("to the agent", "0 2", x.ofRow(0, 0) + " " + x.ofRow(0, 1));
-        x.lose(0);
-        toManager(x, 0, one);
-        Check.same("of the LEVEL 1", java.util.Arrays.toString(Rows.sealed(9, 1, 7, 3, 5, 0, 1000, 0, response)),
-                GuardTests.bytes(x));
-        x.lose(0);
-        for (int salt = 0; salt < 3; salt++) {
-            toManager(x, 0, two);
-            Check.same("of the LEVEL 2", java.util.Arrays.toString(Rows.sealed(10, 2, 8, 3, 5, 0, 1000, salt, response)),
-                    GuardTests.bytes(x));
-            x.lose(0);
-        }
-        Check.same("told once", 1, x.ofManager(0, 8));
-        Check.same("rows of the LEVEL 2", 3, x.ofManager(0, 10));
-        Check.same("no DRAFT", 0, x.ofManager(0, 5));
-        Check.same("they were SENT", 5 + 5, x.house(0));
     }
 
     private static void wrongInputs() {

@@ -76,10 +76,15 @@ final class Rows {
         return list(integer(context), pdu);
     }
 
+    /** A MESSAGE of the LEVEL 0. */
+    static int[] open(int id, int engine, int boots, int time, int user, int[] scope) {
+        return list(integer(3), integer(id), integer(0), integer(engine), integer(boots), integer(time), integer(user),
+                octets(""), integer(0), scope);
+    }
+
     /** A MESSAGE to the agent (ENGINE 7). */
     static int[] plain(int id, int user, int[] scope) {
-        return list(integer(3), integer(id), integer(0), integer(7), integer(1), integer(0), integer(user),
-                octets(""), integer(0), scope);
+        return open(id, 7, 1, 0, user, scope);
     }
 
     static int[] sealed(int id, int level, int engine, int boots, int time, int user, int key, int salt, int[] scope) {

@@ -33,8 +33,9 @@ final class Talk {
     /** The OCTETS in HAND become those of a text. */
     static void spell(Agenttree x, String text) {
         x.noLetters();
-        for (int i = 0; i < text.length(); i++) {
-            x.letters(text.charAt(i), -1, -1, -1, -1);
+        int[] signs = text.chars().toArray();
+        for (int i = 0; i < signs.length; i += 5) {
+            x.letters(signs[i], at(signs, i + 1), at(signs, i + 2), at(signs, i + 3), at(signs, i + 4));
         }
     }
 
@@ -90,8 +91,8 @@ final class Talk {
     /** The BENCH gets just these bytes. */
     static void lay(Agenttree x, int[] row) {
         x.cut(255);
-        for (int b : row) {
-            x.lay(b, -1, -1, -1, -1);
+        for (int i = 0; i < row.length; i += 5) {
+            x.lay(row[i], at(row, i + 1), at(row, i + 2), at(row, i + 3), at(row, i + 4));
         }
     }
 
@@ -121,45 +122,5 @@ final class Talk {
             x.name(i, -1, -1, -1);
             x.family(0, 0, true);
         }
-    }
-
-    /** All that can be asked for without a change, but house(3). */
-    static String stateBut3(Agenttree x) {
-        StringBuilder s = new StringBuilder();
-        for (int i = 0; i < 10; i++) {
-            s.append(x.ofAgent(i)).append(' ');
-        }
-        s.append(x.hand()).append('|').append(x.draftText()).append('|').append(x.read());
-        for (int i = 0; i < 5; i++) {
-            for (int j = 0; j < 11; j++) {
-                s.append(x.ofUser(i, j)).append(' ');
-            }
-            s.append(x.walk(i, 0)).append(x.walk(i, 1)).append('|');
-        }
-        for (int i = 0; i < 4; i++) {
-            s.append(x.families(i)).append('|');
-            for (int j = 0; j < 5; j++) {
-                s.append(x.ofTarget(i, j)).append(' ');
-            }
-        }
-        for (int i = 0; i < 2; i++) {
-            for (int j = 0; j < 12; j++) {
-                s.append(x.ofManager(i, j)).append(' ');
-            }
-            s.append(x.answer(i)).append('|');
-            for (int j = 0; j < x.ofManager(i, 8); j++) {
-                s.append(x.told(i, j)).append('|');
-            }
-        }
-        for (int i = 0; i < x.rows(); i++) {
-            for (int j = 0; j < 5; j++) {
-                s.append(x.ofRow(i, j)).append(' ');
-            }
-            s.append(x.rowText(i)).append('|');
-        }
-        for (int i = 0; i < 5; i++) {
-            s.append(i == 3 ? "" : x.house(i) + " ");
-        }
-        return s.toString();
     }
 }

@@ -30,9 +30,18 @@ final class WholeTests {
     }
 
     private static void promises58And59() {
+        Check.same("digest() of a new one", Digests.of(new Agenttree()), new Agenttree().digest());
+        Agenttree x = manyThings();
+        long d = x.digest();
+        Check.same("digest() of many things", Digests.of(manyThings()), d);
+        Check.same("it changes nothing", d, x.digest());
+        Check.is("isSound()", x.isSound());
+        x.cut(1);
+        Check.is("what is on the BENCH counts", d != x.digest());
+    }
+
+    private static Agenttree manyThings() {
         Agenttree x = new Agenttree();
-        long first = x.digest();
-        Check.same("digest() of a new one", Digests.of(x), first);
         Talk.seeAll(x);
         Talk.learn(x, 0);
         Talk.ask(x, 0, Talk.SET, 2, 0, "3.3.1.2=4", "3.1.1.2='hello'", "2.3.3=2");
@@ -47,11 +56,6 @@ final class WholeTests {
         x.traffic(4, 60000, 65535);
         x.knock();
         Talk.hold(x, "9.8.7");
-        long d = x.digest();
-        Check.same("digest() of many things", Digests.of(x), d);
-        Check.same("it changes nothing", d, x.digest());
-        Check.is("isSound()", x.isSound());
-        x.cut(1);
-        Check.is("what is on the BENCH counts", d != x.digest());
+        return x;
     }
 }
