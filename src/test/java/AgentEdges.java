@@ -21,6 +21,7 @@ final class AgentEdges {
         times();
         takenForThirtyTicks();
         takenByUserAndId();
+        takenByOthersLater();
         takenWhateverIsInIt();
         takenInThisBoot();
         manyTaken();
@@ -287,6 +288,39 @@ final class AgentEdges {
         Check.same("nor TAKEN", 1, y.ofAgent(9));
         sent(y, sealed(6, 2, 1, 0));
         Check.same("one of the LEVEL 2, again of the LEVEL 1", "6 0 0 0 0 0 3 0", come(y, sealed(6, 1, 1, 0)));
+    }
+
+    /** As the first ones are TAKEN no more, each that stays is of its own USER and ID. */
+    private static void takenByOthersLater() {
+        int[] users = {0, 0, 1, 0, 1, 1};
+        int[] ids = {5, 6, 5, 7, 8, 6};
+        for (int gone = 0; gone <= 6; gone++) {
+            for (int user = 0; user < 2; user++) {
+                Agenttree x = new Agenttree();
+                for (int i = 0; i < 6; i++) {
+                    Talk.come(x, 0, Rows.sealed(ids[i], 1, 7, 1, i, users[i], 1000 + users[i], 0, SCOPE));
+                    x.tick(1);
+                }
+                x.tick(24 + gone);
+                int now = x.ofAgent(0);
+                int due = 0;
+                for (int i = 0; i < 6; i++) {
+                    due += now - i <= 30 ? 1 : 0;
+                }
+                Check.same("TAKEN at " + now, due, x.ofAgent(9));
+                while (x.rows() > 0) {
+                    x.lose(0);
+                }
+                for (int id = 5; id <= 8; id++) {
+                    boolean isTaken = false;
+                    for (int i = 0; i < 6; i++) {
+                        isTaken |= users[i] == user && ids[i] == id && now - i <= 30;
+                    }
+                    Check.same("the ID " + id + " of the USER " + user + " at " + now, !isTaken,
+                            isLet(x, Rows.sealed(id, 1, 7, 1, now, user, 1000 + user, 0, SCOPE)));
+                }
+            }
+        }
     }
 
     private static void takenWhateverIsInIt() {

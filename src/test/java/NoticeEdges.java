@@ -13,6 +13,7 @@ final class NoticeEdges {
         otherStates();
         targetByTarget();
         portByPort();
+        setsOfOtherThings();
         beginningAnew();
         numbers();
         sentAgain();
@@ -233,6 +234,24 @@ final class NoticeEdges {
             due.append("; ").append(port(++number, "1 0", 1, "trap", 0, p, 2, 0));
         }
         Check.same("PORT by PORT", due.toString(), all(x));
+    }
+
+    private static void setsOfOtherThings() {
+        Agenttree x = open();
+        x.note(0, 1, 2, true);
+        x.note(0, 3, 4, true);
+        x.target(0, true, 0, 0, 0, true);
+        int[] pdu = Rows.pdu(3, 44, 0, 0, Rows.binding("1.1.0", Rows.octets("a")), Rows.binding("1.2.0", Rows.integer(2)),
+                Rows.binding("2.2.1", Rows.octets("b")), Rows.binding("3.2.1.2", Rows.integer(5)), Rows.binding("3.3.1.2", Rows.integer(2)),
+                Rows.binding("3.3.3.4", Rows.integer(6)), Rows.binding("3.3.2.3", Rows.integer(4)), Rows.binding("2.3.3", Rows.integer(1)));
+        Talk.come(x, 0, Rows.plain(9, 0, Rows.scope(0, pdu)));
+        Check.is("all is done", x.rowText(0).contains("response 44 0 0, 1.1.0='a'"));
+        Check.same("a RESPONSE alone", 1, x.rows());
+        Check.same("no NOTICE", "1000 0", x.ofAgent(7) + " " + x.ofAgent(6));
+        x.traffic(1, 5, 5);
+        x.note(0, 1, 3, true);
+        x.user(0, true, 5, 1);
+        Check.same("nor by any of these", 1000, x.ofAgent(7));
     }
 
     private static void beginningAnew() {

@@ -16,6 +16,7 @@ final class SetEdges {
         notesAndOthers();
         allAtOnce();
         nothingIsDone();
+        behindALongerOne();
         mostOfAllKinds();
         mostOfABulk();
         mostOfASet();
@@ -293,6 +294,22 @@ final class SetEdges {
         Check.same("without it", "0 0", status(x, good));
         Check.is("all is done", !before.equals(all(x)));
         Check.same("a NOTICE", 1001, x.ofAgent(7));
+    }
+
+    /** What stood in a longer SET ahead is not looked at. */
+    private static void behindALongerOne() {
+        Agenttree x = open();
+        Check.same("two", "0 0", status(x, number("1.2.0", 5), number("2.3.1", 2)));
+        x.port(1, true);
+        Check.same("one", "0 0", status(x, number("1.2.0", 6)));
+        Check.same("it alone is done", "6 1", Talk.value(x, 0, "1.2.0") + " " + Talk.value(x, 0, "2.3.1"));
+        Check.same("a NOTE comes", "0 0", status(x, number("3.2.1.1", 5), number("3.3.1.1", 4)));
+        x.note(0, 1, 1, false);
+        Check.same("it does not come by that", "12 1", status(x, number("3.2.1.1", 5)));
+        Check.same("the second one is wrong", "12 2", status(x, number("1.2.0", 1), number("3.2.2.2", 5)));
+        Check.same("without it", "0 0", status(x, number("1.2.0", 1)));
+        Check.same("none", "0 0", status(x));
+        Check.same("nothing more is done", "1 1", Talk.value(x, 0, "1.2.0") + " " + Talk.value(x, 0, "2.3.1"));
     }
 
     private static String all(Agenttree x) {

@@ -146,6 +146,13 @@ final class SumEdges {
             Check.same("bytes 255 ciphered", Arrays.toString(Arrays.stream(cipher).map(b -> 255 - b).toArray()), bytes(y));
         }
         Check.same("no byte", 0, bench().cipher(9999, 999, 255));
+        for (int cut = 1; cut <= 5; cut++) {
+            Agenttree x = bench(200, 201, 202, 203, 204);
+            x.cut(cut);
+            int[] rest = Arrays.copyOf(new int[] {200, 201, 202, 203, 204}, 5 - cut);
+            Check.same("the sum of those that stay", Arrays.stream(Rows.ciphered(rest, 1, 2, 3)).sum(), x.cipher(1, 2, 3));
+            Check.same("the SUM of those that stay", Rows.sum(Rows.ciphered(rest, 1, 2, 3), 7, -1), x.sum(7));
+        }
         int[] full = new int[255];
         Agenttree z = bench(full);
         Check.same("255 bytes", Arrays.stream(Rows.ciphered(full, 77, 88, 99)).sum(), z.cipher(77, 88, 99));

@@ -14,6 +14,7 @@ final class ViewEdges {
         greatestName();
         greatestMask();
         ofNone();
+        thoseThatWent();
         noView();
         viewsOfAllUsers();
     }
@@ -243,6 +244,27 @@ final class ViewEdges {
         Talk.hold(x, "1.1");
         x.unfamily(1, 0);
         has(x, "1.1", false);
+    }
+
+    /** FAMILIES that went are none any more, whichever went. */
+    private static void thoseThatWent() {
+        for (int gone = 0; gone < 6; gone++) {
+            for (int many = gone + 1; many <= 6; many++) {
+                Agenttree x = new Agenttree();
+                for (int i = 0; i < many; i++) {
+                    put(x, 3 + i + ".1", 0, true);
+                }
+                Talk.hold(x, 3 + gone + ".1");
+                Check.same("one goes", many - 1, x.unfamily(1, 0));
+                for (int i = 0; i < many; i++) {
+                    has(x, 3 + i + ".1", i != gone);
+                }
+                Check.is("isSound()", x.isSound());
+                Talk.hold(x, 3 + gone + ".1");
+                Check.same("it comes again", many, x.family(1, 0, true));
+                has(x, 3 + gone + ".1.0", true);
+            }
+        }
     }
 
     private static void noView() {
