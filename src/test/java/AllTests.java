@@ -29,6 +29,8 @@ public final class AllTests {
         LineEdges.run();
         TextEdges.run();
         StatesTests.run();
+        DeedTests.run();
+        FaceTests.run();
         Doc.checkThatAllIsQuoted();
         LanguageTests.run();
         System.out.println("checks: " + Check.passed + " passed, " + Check.failed + " failed");

@@ -212,7 +212,7 @@ final class BytesEdges {
     }
 
     private static void lengthsThatAreRead() {
-        Doc.says("a LENGTH that is not written as told, is not all there, or goes beyond the end of what it stands in");
+        Doc.says("a LENGTH that is not written as told, is not all there, or goes beyond the end of what it stands in, or");
         int head = 2 + 7 * 3 + 4 + 3;
         for (int n : new int[] {0, 1, 126, 127, 128, 129, 200, 220, 221}) {
             int[] bytes = new int[n];

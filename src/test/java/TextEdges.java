@@ -273,7 +273,10 @@ final class TextEdges {
 
     private static void digests() {
         Doc.promise(59, "Computes a checksum. A number d starts with 7684; then d becomes d * 31 + v, which wraps around as a 64-bit integer, for each "
-                + "v in this order", "Returns d.");
+                + "v in this order (of a text the codes of its signs): ofAgent() of 0 to 9; CONTEXT by CONTEXT, OBJECT by OBJECT that is there by ORDER, "
+                + "its NAME and VALUE as texts; hand(); USER by USER ofUser() of 0 to 10, and walk() of both CONTEXTS; VIEW by VIEW families(); TARGET "
+                + "by TARGET ofTarget() of 0 to 4; MANAGER by MANAGER ofManager() of 0 to 11, answer(), each told(); draftText(); row by row ofRow() "
+                + "of 0 to 4, then its bytes; fault(), read(); house() of 0 to 4; 1 if isSound(), otherwise 0.", "Returns d.");
         Check.same("a new one", Digests.of(new Agenttree()), new Agenttree().digest());
         Agenttree x = Face.busy();
         Agenttree y = Face.busy();
