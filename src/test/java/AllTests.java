@@ -33,6 +33,7 @@ public final class AllTests {
         FaceTests.run();
         Doc.checkThatAllIsQuoted();
         LanguageTests.run();
+        ReadmeTests.run();
         System.out.println("checks: " + Check.passed + " passed, " + Check.failed + " failed");
         if (Check.failed > 0 || Check.passed == 0) {
             System.exit(1);
