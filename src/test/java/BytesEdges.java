@@ -298,6 +298,17 @@ final class BytesEdges {
             Check.same(tag + " in two bytes that are 0", "fault 0", valueOf(tag, 2, 0, 0));
             Check.same(tag + " in two bytes that are -1", "fault 0", valueOf(tag, 2, 255, 255));
         }
+        for (int many = 5; many <= 12; many++) {
+            int[][] fills = {{1, 2}, {0, 0}, {255, 255}, {127, 255}, {0, 128}, {1, 0}, {255, 0}};
+            for (int[] fill : fills) {
+                int[] content = new int[many];
+                Arrays.fill(content, fill[1]);
+                content[0] = fill[0];
+                for (int tag : new int[] {2, 65, 67}) {
+                    Check.same(tag + " in " + many + " bytes", "fault 0", valueOf(Rows.part(tag, content)));
+                }
+            }
+        }
         Check.same("COUNTER 65535", "c65535", valueOf(65, 3, 0, 255, 255));
         Check.same("COUNTER 65536", "fault 0", valueOf(65, 3, 1, 0, 0));
         Check.same("COUNTER -1", "fault 0", valueOf(65, 1, 255));
@@ -321,6 +332,25 @@ final class BytesEdges {
             }
         }
         Check.same("128 OCTETS", "fault 0", valueOf(Rows.part(4, new int[128])));
+        for (int b : new int[] {0, 1, 31, 39, 126, 127, 128, 129, 200, 254, 255}) {
+            int[] eight = {b, 128, b, 255, 0, b, 127, b};
+            Agenttree x = new Agenttree();
+            Talk.learn(x, 0);
+            x.draft(Talk.SET, 0, 0, 0, 0);
+            x.name(1, 1, 0, -1);
+            x.letters(eight[0], eight[1], eight[2], eight[3], -1);
+            x.letters(eight[4], eight[5], eight[6], eight[7], -1);
+            x.bind(2, 0);
+            x.send(0);
+            int[] binding = Rows.binding("1.1.0", Rows.part(4, eight));
+            sameBytes("OCTETS of " + b, Rows.open(2, 7, 1, 0, 0, Rows.scope(0, Rows.pdu(3, 2, 0, 0, binding))), x);
+            x.passAll(2);
+            x.draft(0, 0, 0, 0, 0);
+            x.bind(0, 0);
+            x.send(0);
+            x.pass(0);
+            sameBytes("the label of " + b, Rows.open(4, 7, 1, 0, 0, Rows.scope(0, Rows.pdu(2, 4, 0, 0, binding))), x);
+        }
     }
 
     private static void bareOnes() {

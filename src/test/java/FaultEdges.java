@@ -13,6 +13,7 @@ final class FaultEdges {
         bytesBehind();
         partsBeforeTheirLists();
         theFirstOne();
+        partsWithinAWrongName();
         soundRows();
         cipheredOnes();
         emptyAndCutRows();
@@ -89,7 +90,7 @@ final class FaultEdges {
     /** INTEGERS that are not in the fewest bytes, wherever one stands. */
     private static void numbersAtEachPlace() {
         int[][] wrongs = {{2, 0}, {2, 2, 0, 1}, {2, 2, 0, 127}, {2, 2, 255, 128}, {2, 3, 0, 0, 200}, {2, 3, 255, 255, 0},
-            {2, 5, 1, 0, 0, 0, 0}, {2, 5, 0, 128, 0, 0, 0}, {2, 4, 255, 128, 0, 0}, {2, 4, 0, 127, 255, 255}};
+            {2, 5, 1, 0, 0, 0, 0}, {2, 6, 1, 2, 3, 4, 5, 6}, {2, 8, 1, 0, 0, 0, 0, 0, 0, 1}, {2, 5, 0, 128, 0, 0, 0}, {2, 4, 255, 128, 0, 0}, {2, 4, 0, 127, 255, 255}};
         for (int[] wrong : wrongs) {
             each("not in the fewest bytes", part -> part[0] == 2 ? wrong : withTag(part, 0));
         }
@@ -193,6 +194,17 @@ final class FaultEdges {
                     all.get(j).wrong = withTag(all.get(j).bytes(), 0);
                     fault("two are wrong, " + j + " and " + i, row.bytes(), row.placeOf(all.get(j), 0));
                 }
+            }
+        }
+    }
+
+    /** Behind the number that makes a NAME wrong something stands that looks like a part. */
+    private static void partsWithinAWrongName() {
+        int[][] wrongs = {{128, 5}, {128, 127}, {135, 104}, {255, 127}, {129, 128}, {129, 255}, {1, 2, 3, 4, 5, 6, 7, 8, 9}};
+        int[][] behind = {{6, 1, 5}, {6, 0}, {2, 1, 5}, {2, 2, 0, 0}, {4, 1, 65}, {4, 13, 1}, {5, 0}, {48, 2, 6, 0}, {}};
+        for (int[] wrong : wrongs) {
+            for (int[] then : behind) {
+                each("a NAME that is wrong, and bytes behind that", part -> part[0] == 6 ? Rows.part(6, wrong, then) : withTag(part, 0));
             }
         }
     }

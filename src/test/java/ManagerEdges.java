@@ -16,6 +16,7 @@ final class ManagerEdges {
         idsOfDrafts();
         openDrafts();
         droppedFaults();
+        faultsOfAnswers();
         droppedUsersAndSums();
         learningOfTheLevel0();
         learningOfOtherLevels();
@@ -200,6 +201,34 @@ final class ManagerEdges {
                 Check.same("a FAULT at " + place, "1 1 1", y.ofManager(0, 7) + " " + y.ofManager(0, 9) + " " + y.ofManager(0, 6));
                 Check.same("nothing is learned, or told", "7 1 0 0", knows(y, 0) + " " + y.ofManager(0, 8));
                 Check.same("it came", 4, y.house(2));
+            }
+        }
+    }
+
+    /** All is right but one part: without that FAULT it would be an ANSWER. */
+    private static void faultsOfAnswers() {
+        int[][] bindings = {NULL, Rows.binding("1.2", Rows.of(2, 2, 0, 5)), Rows.binding("1.2", Rows.of(5, 1, 0)), Rows.of(48, 1, 6),
+            Rows.list(Rows.of(6, 1, 128), Rows.empty(5))};
+        for (int level = 0; level <= 1; level++) {
+            for (int i = 0; i < 2 * bindings.length; i++) {
+                int[] scope = Rows.scope(0, Rows.pdu(2, 2, 0, 0, NULL, bindings[i / 2]));
+                int[] row = Rows.join(row(2, level, 7, 1, 0, scope), new int[i % 2]);
+                if (level == 1) {
+                    // The SUM stands behind the head of the LIST, seven INTEGERS of three bytes, and its own head.
+                    int place = 2 + 7 * 3 + 2;
+                    int sum = Rows.sum(row, 1000, place);
+                    row[place] = sum / 256;
+                    row[place + 1] = sum % 256;
+                }
+                Agenttree x = new Agenttree();
+                Talk.learn(x, 0);
+                x.draft(0, level, 0, 0, 0);
+                x.send(0);
+                x.lose(0);
+                Forge.toManager(x, 0, row);
+                boolean isRight = i == 0;
+                Check.same("ANSWERS, dropped, OPEN", isRight ? "2 0 0" : "1 1 1", x.ofManager(0, 7) + " " + x.ofManager(0, 9) + " " + x.ofManager(0, 6));
+                Check.same("its FAULT", isRight ? 0 : 1, BytesEdges.read(row).startsWith("fault") ? 1 : 0);
             }
         }
     }

@@ -18,6 +18,7 @@ final class NoticeEdges {
         numbers();
         sentAgain();
         sentAgainAsTheFirstTime();
+        sentAgainByTheKeyThen();
         againTickByTick();
         endedByResponses();
         endedByOthersNot();
@@ -350,6 +351,24 @@ final class NoticeEdges {
                 Check.same("from, to and when", "2 1 " + time, x.ofRow(0, 0) + " " + x.ofRow(0, 1) + " " + x.ofRow(0, 4));
                 Check.same("just one", 1, x.rows());
                 x.lose(0);
+            }
+        }
+    }
+
+    private static void sentAgainByTheKeyThen() {
+        for (int user = 0; user <= 4; user++) {
+            for (int level = 1; level <= 2; level++) {
+                Agenttree x = open();
+                x.user(user, true, 9999, 2);
+                x.target(0, true, 0, user, level, true);
+                x.port(4, false);
+                int[] scope = scope(6, 1001, 0, 4, 2);
+                Check.same("the first time", Arrays.toString(Rows.sealed(1001, level, 7, 1, 0, user, 9999, 0, scope)), GuardTests.bytes(x));
+                x.lose(0);
+                x.tick(4);
+                x.user(user, false, user, 0);
+                x.tick(1);
+                Check.same("by the KEY then", Arrays.toString(Rows.sealed(1001, level, 7, 1, 5, user, user, 1, scope)), GuardTests.bytes(x));
             }
         }
     }

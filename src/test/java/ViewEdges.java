@@ -1,3 +1,5 @@
+import java.util.TreeSet;
+
 /** Section 4 of the document: USERS at first, FAMILIES, MASKS, and which NAMES a VIEW HAS. */
 final class ViewEdges {
     private ViewEdges() {
@@ -15,6 +17,7 @@ final class ViewEdges {
         greatestMask();
         ofNone();
         thoseThatWent();
+        othersThatCome();
         noView();
         viewsOfAllUsers();
     }
@@ -263,6 +266,33 @@ final class ViewEdges {
                 Talk.hold(x, 3 + gone + ".1");
                 Check.same("it comes again", many, x.family(1, 0, true));
                 has(x, 3 + gone + ".1.0", true);
+            }
+        }
+    }
+
+    /** Of six, two go and two others come, ahead of all, between them, or behind. */
+    private static void othersThatCome() {
+        String[][] others = {{"1", "2.5"}, {"1", "9"}, {"8", "9"}, {"4.5", "5.5"}, {"9", "1"}};
+        for (int gone = 0; gone < 36; gone++) {
+            for (String[] other : others) {
+                Agenttree x = new Agenttree();
+                TreeSet<String> due = new TreeSet<>();
+                for (int i = 0; i < 6; i++) {
+                    put(x, 2 + i + ".7", i, i % 2 == 0);
+                    due.add(2 + i + ".7/" + i + (i % 2 == 0 ? "+" : "-"));
+                }
+                for (int i : new int[] {gone / 6, gone % 6}) {
+                    Talk.hold(x, 2 + i + ".7");
+                    x.unfamily(1, i);
+                    due.remove(2 + i + ".7/" + i + (i % 2 == 0 ? "+" : "-"));
+                }
+                for (String name : other) {
+                    if (due.size() < 6) {
+                        put(x, name, 0, true);
+                        due.add(name + "/0+");
+                    }
+                }
+                Check.same("families()", String.join(", ", due), x.families(1));
             }
         }
     }
