@@ -863,7 +863,7 @@ public final class Agenttree {
     }
 
     private boolean areRowsSound() {
-        for (int k = 0; k < line.count; k++) {
+        for (int k = 0; k < MOST_ROWS && line.hasRow(k); k++) {
             Row row = line.rows[k];
             if (coder.readRow(row, in) == NONE) {
                 coder.encodeAgain(in, row, rowOut);
@@ -1006,12 +1006,13 @@ public final class Agenttree {
 
     private long mixRows(long d) {
         long mixed = d;
-        for (int k = 0; k < line.count; k++) {
+        for (int k = 0; k < MOST_ROWS && line.hasRow(k); k++) {
+            Row row = line.rows[k];
             for (int what = 0; what <= 4; what++) {
                 mixed = mix(mixed, ofRow(k, what));
             }
-            for (int place = 0; place < line.rows[k].length; place++) {
-                mixed = mix(mixed, line.rows[k].bytes[place]);
+            for (int place = 0; place < MOST_BYTES && row.hasByte(place); place++) {
+                mixed = mix(mixed, row.bytes[place]);
             }
         }
         mixed = mix(mixed, coder.readRow(bench, in));
@@ -1761,8 +1762,8 @@ public final class Agenttree {
             for (int i = k + 1; i < count && i < MOST_ROWS; i++) {
                 rows[i - 1] = rows[i];
             }
-            rows[count - 1] = gone;
-            count--;
+            count = Math.min(count, MOST_ROWS) - 1;
+            rows[count] = gone;
         }
     }
 
